@@ -11,6 +11,7 @@ public final class CommitteeTest {
         voteOfPublished();
         deny();
         ends();
+        firstPerson();
         Check.end();
     }
 
@@ -223,6 +224,7 @@ public final class CommitteeTest {
         Check.due("second for the same", x.vote(0, 2, true), 'c');
         Check.due("state", x.state(0), 'e');
         Check.due("letters", land.file(0).endsWith("KucccV"), true);
+        Check.due("sound as it confirmed", x.isSound(), true);
         Check.unsupported("it is over", () -> x.vote(0, 3, true));
         Check.unsupported("none is to be seated", () -> x.seat(0));
         Check.due("the alarm is no cause any more", x.decide(0), 'a');
@@ -241,6 +243,7 @@ public final class CommitteeTest {
         x.vote(0, 2, false);
         Check.due("nothing of it", x.state(0), 'p');
         Check.due("letters", land.file(0).endsWith("PjuccD"), true);
+        Check.due("sound as it denied", x.isSound(), true);
         x.complain(0, 5);
         x.seat(0);
         Check.due("first", x.vote(0, 3, true), 'o');
@@ -260,6 +263,7 @@ public final class CommitteeTest {
         Check.due("denied", x.vote(0, 3, false), 'd');
         Check.due("rejected", x.state(0), 'x');
         Check.due("letters", land.file(0).endsWith("KuccD"), true);
+        Check.due("sound as it denied", x.isSound(), true);
         x.appeal(0);
         x.sendAway(1, 1);
         x.sendAway(2, 1);
@@ -270,6 +274,23 @@ public final class CommitteeTest {
         x.alarm(0, 4);
         Check.due("not confirmed: a cause again", x.decide(0), 'k');
         Check.due("sound", x.isSound(), true);
+    }
+
+    private static void firstPerson() {
+        Land land = new Land(9);
+        Refereehall x = land.x;
+        int paper = land.taken(1, 7, 8);
+        land.score(paper, 60, 7, 8);
+        x.alarm(paper, 7);
+        x.decide(paper);
+        x.addEditor(0, 0);
+        x.addEditor(2, 0);
+        x.addEditor(3, 0);
+        Check.due("with person 0", x.seat(paper), 1 + 4 + 8);
+        x.tellConflict(0, 1);
+        Check.unsupported("person 0 cannot vote", () -> x.vote(paper, 0, true));
+        x.addEditor(4, 0);
+        Check.due("without person 0", x.seat(paper), 4 + 8 + 16);
     }
 
     private static void ends() {

@@ -5,6 +5,7 @@ public final class DecisionsTest {
         twoApart();
         editorInConflict();
         bounds();
+        boundsAtFirst();
         roundedDown();
         sixVersions();
         committees();
@@ -125,8 +126,24 @@ public final class DecisionsTest {
         Check.due("no point is open", x.decide(open), 'a');
     }
 
-    /** Evened scores of -1 and 0 have the mean -1. */
-    private static void roundedDown() {
+    private static void boundsAtFirst() {
+        Check.due("a mean of 50", decided(60), 'a');
+        Check.due("a mean of 49", decided(58), 'q');
+        Check.due("a mean of 35", decided(30), 'q');
+        Check.due("a mean of 34", decided(28), 'x');
+    }
+
+    /** By the rules at first, with two referees who have given 60 elsewhere. */
+    private static char decided(int score) {
+        Land land = new Land(9);
+        land.taken(0, 1, 2);
+        land.taken(0, 1, 2);
+        land.score(0, score, 1, 2);
+        land.score(1, 60, 1, 2);
+        return land.x.decide(0);
+    }
+
+        private static void roundedDown() {
         Land land = new Land(9);
         Refereehall x = land.x;
         land.taken(0, 1, 2);

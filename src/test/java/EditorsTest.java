@@ -7,6 +7,7 @@ public final class EditorsTest {
         load();
         loadByState();
         rejecters();
+        firstPerson();
         setRules();
         Check.end();
     }
@@ -133,6 +134,25 @@ public final class EditorsTest {
         Check.due("another paper of the author", x.assign(land.signed(0)), 9);
         x.addEditor(8, 0);
         Check.due("another editor", x.assign(paper), 8);
+    }
+
+    private static void firstPerson() {
+        Land land = new Land(0);
+        Refereehall x = land.x;
+        Check.due("person 0", x.assign(land.signed(1)), 0);
+        land.take(0, 2, 3);
+        land.score(0, 60, 2, 3);
+        x.setRules(0, 2, 100, 100, 's');
+        x.decide(0);
+        x.appeal(0);
+        Check.noElement("person 0 rejected it", () -> x.assign(0));
+        Land other = new Land(0, 9);
+        Refereehall y = other.x;
+        y.sendAway(0, 1);
+        other.rejected(1, 2, 3);
+        y.sendAway(0, 0);
+        y.appeal(0);
+        Check.due("person 0 did not reject it", y.assign(0), 0);
     }
 
     private static void setRules() {

@@ -4,6 +4,7 @@ public final class IndexTest {
         wrongCalls();
         index();
         indexWithCommonAuthors();
+        indexByTheFirst();
         indexOfPublicVersion();
         fieldIndex();
         circle();
@@ -96,6 +97,17 @@ public final class IndexTest {
         x.publish(4);
         Check.due("cited by another one", x.index(0), 1);
         Check.due("of the other author", x.index(1), 1);
+    }
+
+    private static void indexByTheFirst() {
+        Land land = new Land(9);
+        Refereehall x = land.x;
+        ready(land, 0);
+        ready(land, 1);
+        x.cite(0, 1);
+        publishAll(x, 2);
+        Check.due("cited by paper 0", x.index(1), 1);
+        Check.due("of the one that cites", x.index(0), 0);
     }
 
     private static void indexOfPublicVersion() {

@@ -9,6 +9,7 @@ public final class PublicTest {
         retract();
         concerns();
         concernsOfOthers();
+        concernOfTheFirst();
         steps();
         claim();
         results();
@@ -68,7 +69,8 @@ public final class PublicTest {
         Check.badArgument("day -1", () -> x.embargo(0, -1));
         Check.badArgument("day 10000", () -> x.embargo(0, 10000));
         Check.due("at first", x.embargo(0, 9999), 0);
-        Check.due("before", x.embargo(0, 3), 9999);
+        Check.due("from the first day on", x.embargo(0, 0), 9999);
+        Check.due("before", x.embargo(0, 3), 0);
         x.goOn(2);
         Check.unsupported("too early", () -> x.publish(0));
         x.goOn(1);
@@ -194,6 +196,30 @@ public final class PublicTest {
         Check.due("all others", x.retract(5), 5);
         Check.due("not the retracted one", x.hasConcern(5), false);
         Check.due("once each", x.letter(0, x.letters(0) - 2), 'P');
+    }
+
+    /** 0 cites 1 and is cited by 2; 3 cites 0, too, and is published later. */
+    private static void concernOfTheFirst() {
+        Land land = new Land(9);
+        Refereehall x = land.x;
+        for (int i = 0; i < 5; i++) {
+            land.accepted(0, 1, 2);
+        }
+        x.cite(0, 1);
+        x.cite(2, 0);
+        x.cite(3, 0);
+        for (int i = 0; i < 5; i++) {
+            if (i != 3) {
+                x.publish(i);
+            }
+        }
+        Check.due("nobody cites it, and 0 has no concern", x.retract(4), 0);
+        Check.due("0 and the one that cites it", x.retract(1), 2);
+        x.publish(3);
+        Check.due("no concern yet", x.hasConcern(3), false);
+        Check.due("0 has one", x.hasConcern(0), true);
+        Check.due("one that cites 0", x.retract(2), 1);
+        Check.due("a concern", x.hasConcern(3), true);
     }
 
     private static void steps() {

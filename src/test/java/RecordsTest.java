@@ -84,6 +84,7 @@ public final class RecordsTest {
         Land land = new Land(9, 8);
         Refereehall x = land.x;
         Check.due("at first", x.rings(), 0);
+        firstPersonPraises();
         land.taken(0, 1, 2);
         land.taken(1, 0, 2);
         land.taken(2, 0, 1);
@@ -113,6 +114,16 @@ public final class RecordsTest {
         x.revise(back, 1);
         x.dropAuthor(back, 6);
         Check.due("who was an author", x.rings(), 4);
+    }
+
+    private static void firstPersonPraises() {
+        Land land = new Land(9);
+        Refereehall x = land.x;
+        land.taken(1, 0);
+        land.score(0, 100, 0);
+        land.taken(3, 2);
+        land.score(1, 100, 2);
+        Check.due("no pair", x.rings(), 0);
     }
 
     private static void checksum() {
@@ -182,6 +193,9 @@ public final class RecordsTest {
         Check.due("appealed", x.isSound(), true);
         x.assign(1);
         Check.due("with another editor", x.isSound(), true);
+        x.revise(1, 1);
+        x.sign(1, 0);
+        Check.due("signed with an editor", x.isSound(), true);
         x.revise(1, 1);
         x.addAuthor(1, 3);
         x.sign(1, 3);

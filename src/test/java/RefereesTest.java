@@ -13,6 +13,7 @@ public final class RefereesTest {
         meet();
         alarm();
         laterReport();
+        firstPerson();
         Check.end();
     }
 
@@ -291,6 +292,27 @@ public final class RefereesTest {
         x.sign(0, 0);
         Check.due("a committee decides", x.decide(0), 'k');
         Check.unsupported("in state k", () -> x.alarm(0, 2));
+    }
+
+    private static void firstPerson() {
+        Land land = new Land(9);
+        Refereehall x = land.x;
+        land.assigned(1);
+        Check.due("person 0", x.invite(0, 1), 1);
+        Check.due("asked", x.invitation(0, 0), 'o');
+        Check.due("lapses", x.goOn(15), 1);
+        land.assigned(1);
+        x.invite(1, 3);
+        Check.due("takes one", x.answer(1, 0, true), 1);
+        x.answer(1, 2, true);
+        x.report(1, 0, 80, 0, false);
+        Check.due("mean", x.meanScore(), 80.0);
+        x.report(1, 2, 60, 0, false);
+        Check.due("mean of both", x.meanScore(), 70.0);
+        x.setRules(0, 2, 100, 100, 's');
+        x.decide(1);
+        x.appeal(1);
+        Check.due("asked no more", x.invitation(1, 0), '-');
     }
 
     private static void laterReport() {
