@@ -58,14 +58,7 @@ public final class CommitteeTest {
         Land land = new Land(9);
         Refereehall x = land.x;
         Check.outOfBounds("no paper", () -> x.complain(0, 1));
-        x.begin(0, 0, 1);
-        x.addAuthor(0, 3);
-        x.sign(0, 0);
-        x.sign(0, 3);
-        x.revise(0, 1);
-        x.dropAuthor(0, 3);
-        x.sign(0, 0);
-        x.sign(0, 3);
+        land.withOneGone(0, 3);
         x.assign(0);
         land.take(0, 1, 2);
         land.score(0, 60, 1, 2);

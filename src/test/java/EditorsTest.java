@@ -37,14 +37,7 @@ public final class EditorsTest {
         Land land = new Land();
         Refereehall x = land.x;
         x.addPerson(1, 1);
-        x.begin(0, 0, 1);
-        x.addAuthor(0, 1);
-        x.sign(0, 0);
-        x.sign(0, 1);
-        x.revise(0, 1);
-        x.dropAuthor(0, 1);
-        x.sign(0, 0);
-        x.sign(0, 1);
+        land.withOneGone(0, 1);
         x.addEditor(0, 0);
         Check.noElement("the author", () -> x.assign(0));
         x.addEditor(1, 0);

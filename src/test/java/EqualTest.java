@@ -68,14 +68,7 @@ public final class EqualTest {
     private static void authors() {
         Land land = new Land();
         Refereehall x = land.x;
-        x.begin(0, 0, 1);
-        x.addAuthor(0, 1);
-        x.sign(0, 0);
-        x.sign(0, 1);
-        x.revise(0, 1);
-        x.dropAuthor(0, 1);
-        x.sign(0, 0);
-        x.sign(0, 1);
+        land.withOneGone(0, 1);
         x.showAhead(0);
         land.signed(0);
         Check.noElement("an author in common", () -> x.equalTo(1));

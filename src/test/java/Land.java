@@ -21,6 +21,19 @@ final class Land {
         return paper;
     }
 
+    /** A signed paper of two versions: who was an author of the first one is none of the second. */
+    int withOneGone(int author, int gone) {
+        int paper = x.begin(author, 0, 1);
+        x.addAuthor(paper, gone);
+        x.sign(paper, author);
+        x.sign(paper, gone);
+        x.revise(paper, 1);
+        x.dropAuthor(paper, gone);
+        x.sign(paper, author);
+        x.sign(paper, gone);
+        return paper;
+    }
+
     int assigned(int author) {
         int paper = signed(author);
         x.assign(paper);
@@ -63,7 +76,7 @@ final class Land {
         return paper;
     }
 
-    /** Each new referee spoils a mean of 50 by points or scores: here the rules make 'x' of any mean. */
+    /** A paper with a mean of 50, as the rules make 'x' of any mean for that while. */
     int rejected(int author, int first, int second) {
         int paper = taken(author, first, second);
         score(paper, 60, first, second);

@@ -15,14 +15,7 @@ public final class SightTest {
     private static Land judged(char way) {
         Land land = new Land(9);
         Refereehall x = land.x;
-        x.begin(0, 0, 1);
-        x.addAuthor(0, 3);
-        x.sign(0, 0);
-        x.sign(0, 3);
-        x.revise(0, 1);
-        x.dropAuthor(0, 3);
-        x.sign(0, 0);
-        x.sign(0, 3);
+        land.withOneGone(0, 3);
         x.assign(0);
         x.sendAway(5, 1);
         x.sendAway(6, 1);
