@@ -8,6 +8,7 @@ public final class IndexTest {
         indexOfPublicVersion();
         fieldIndex();
         circle();
+        circleOfOneStep();
         circleOfThree();
         circleOfJointPapers();
         Check.end();
@@ -204,6 +205,21 @@ public final class IndexTest {
         y.publish(5);
         y.retract(0);
         Check.due("a retracted one does not count", y.circle(1), 0);
+    }
+
+    /** 0 cites two of 1, and 1 cites one of 0, which is not paper 0. */
+    private static void circleOfOneStep() {
+        Land land = new Land(9);
+        Refereehall x = land.x;
+        for (int i = 0; i < 4; i++) {
+            ready(land, i % 2);
+        }
+        x.cite(0, 1);
+        x.cite(0, 3);
+        x.cite(1, 2);
+        publishAll(x, 4);
+        Check.due("one is not two", x.circle(0), 0);
+        Check.due("nor for the other one", x.circle(1), 0);
     }
 
     private static void circleOfThree() {

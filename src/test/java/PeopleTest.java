@@ -104,6 +104,8 @@ public final class PeopleTest {
         }
         Check.outOfBounds("money of nobody", () -> x.tellMoney(3, 3, 0));
         Check.outOfBounds("money with nobody", () -> x.tellMoney(0, -1, 0));
+        Check.outOfBounds("money of 3", () -> x.tellMoney(3, 0, 5));
+        Check.outOfBounds("money of -1", () -> x.tellMoney(-1, 0, 5));
         Check.badArgument("money with oneself", () -> x.tellMoney(1, 1, 5));
         Check.badArgument("for 0 days", () -> x.tellMoney(0, 1, 0));
         Check.badArgument("for 1000 days", () -> x.tellMoney(0, 1, 1000));

@@ -275,13 +275,14 @@ public final class PublicTest {
         runs(x, "+", new int[] {7}, 7);
         runs(x, "+*-", new int[] {7, 3, 30}, -9);
         runs(x, "-/", new int[] {7, 2}, -3);
+        runs(x, "+//", new int[] {7, 1, -1}, -7);
         runs(x, "+/", new int[] {-7, -2}, 3);
         runs(x, "+/", new int[] {Integer.MIN_VALUE, -1}, Integer.MIN_VALUE);
         runs(x, "++", new int[] {Integer.MAX_VALUE, 1}, Integer.MIN_VALUE);
         runs(x, "+*", new int[] {65536, 65536}, 0);
         runs(x, "-*", new int[] {Integer.MAX_VALUE, 2}, 2);
         x.begin(0, 0, 1);
-        int paper = 9;
+        int paper = 10;
         x.step(paper, '/', 0);
         x.step(paper, '*', 0);
         Check.due("divided by 0", x.isRight(paper), false);
