@@ -1,3 +1,5 @@
+import java.util.ArrayList;
+import java.util.List;
 import java.util.Objects;
 
 /** Counts the answers that are not due, and ends a test. */
@@ -7,10 +9,22 @@ final class Check {
         void make();
     }
 
+    // As many as one test uses at a time; the elder ones are not looked at any more.
+    private static final int MOST_WATCHED = 3;
+    private static final List<Refereehall> watched = new ArrayList<>();
     private static int wrong = 0;
     private static int made = 0;
 
     private Check() {
+    }
+
+    /** A land that no call may change that throws. */
+    static Refereehall watch(Refereehall land) {
+        if (watched.size() >= MOST_WATCHED) {
+            watched.remove(0);
+        }
+        watched.add(land);
+        return land;
     }
 
     static void due(String what, Object got, Object want) {
@@ -21,8 +35,22 @@ final class Check {
         }
     }
 
-    /** The class of the exception is to be this very one: what the machine throws is often one below it. */
     static void fails(String what, Class<? extends RuntimeException> want, Call call) {
+        List<String> before = snapshots();
+        throwsWith(what, want, call);
+        due(what + " changes nothing", snapshots().equals(before), true);
+    }
+
+    private static List<String> snapshots() {
+        List<String> all = new ArrayList<>();
+        for (Refereehall land : watched) {
+            all.add(Snapshot.of(land));
+        }
+        return all;
+    }
+
+    /** The class of the exception is to be this very one: what the machine throws is often one below it. */
+    private static void throwsWith(String what, Class<? extends RuntimeException> want, Call call) {
         made++;
         try {
             call.make();

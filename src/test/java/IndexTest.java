@@ -15,7 +15,7 @@ public final class IndexTest {
     }
 
     private static void wrongCalls() {
-        Refereehall x = new Refereehall();
+        Refereehall x = Check.watch(new Refereehall());
         Check.outOfBounds("index of nobody", () -> x.index(0));
         Check.outOfBounds("index of -1", () -> x.index(-1));
         Check.outOfBounds("circle of nobody", () -> x.circle(0));

@@ -1,6 +1,6 @@
 /** Brings papers as far as a test needs them. Ten people at first: person i is of house i and has the word 0. */
 final class Land {
-    final Refereehall x = new Refereehall();
+    final Refereehall x = Check.watch(new Refereehall());
 
     Land(int... editors) {
         for (int i = 0; i < 10; i++) {

@@ -1,9 +1,4 @@
-import java.lang.reflect.InvocationTargetException;
-import java.lang.reflect.Method;
 import java.util.Arrays;
-import java.util.HashMap;
-import java.util.HashSet;
-import java.util.Map;
 import java.util.Random;
 import java.util.Set;
 import java.util.TreeSet;
@@ -14,7 +9,6 @@ import java.util.TreeSet;
  * its answer, so that two programs can be compared.
  */
 public final class LongRunTest {
-    private static final Map<String, Method> METHODS = new HashMap<>();
     private static final String[] READERS = {
         "haveConflict", "distance", "editorOf", "invitation", "evened", "openPoints", "priority", "hasConcern",
         "isRight", "likeness", "equalTo", "sees", "publicVersion", "index", "fieldIndex", "circle", "state", "letters",
@@ -43,9 +37,6 @@ public final class LongRunTest {
     }
 
     public static void main(String[] args) {
-        for (Method method : Refereehall.class.getMethods()) {
-            METHODS.put(method.getName(), method);
-        }
         trace = args.length > 0 && args[0].equals("trace");
         int runs = args.length > 1 ? Integer.parseInt(args[1]) : 300;
         Set<Character> seen = new TreeSet<>();
@@ -90,7 +81,7 @@ public final class LongRunTest {
     }
 
     private static int answered(Object answer) {
-        return answer instanceof String ? 0 : 1;
+        return Calls.hasThrown(answer) ? 0 : 1;
     }
 
     private int words() {
@@ -294,7 +285,7 @@ public final class LongRunTest {
     }
 
     private void callAtRandom(String name) {
-        Class<?>[] types = METHODS.get(name).getParameterTypes();
+        Class<?>[] types = Calls.types(name);
         Object[] arguments = new Object[types.length];
         for (int i = 0; i < types.length; i++) {
             if (types[i] == int.class) {
@@ -335,48 +326,13 @@ public final class LongRunTest {
 
     private Object call(String name, Object... arguments) {
         calls++;
-        String before = trace ? "" : digest();
-        Object answer = make(x, name, arguments);
+        String before = trace ? "" : Snapshot.of(x);
+        Object answer = Calls.make(x, name, arguments);
         if (trace) {
             System.out.println(name + " " + Arrays.toString(arguments) + " -> " + answer);
-        } else if (answer instanceof String) {
-            Check.due("what " + name + " changes as it throws", digest(), before);
+        } else if (Calls.hasThrown(answer)) {
+            Check.due("what " + name + " changes as it throws", Snapshot.of(x), before);
         }
         return answer;
-    }
-
-    /** The answer, or the name of the exception as a String. */
-    private static Object make(Refereehall land, String name, Object... arguments) {
-        Method method = METHODS.get(name);
-        try {
-            return method.invoke(land, arguments);
-        } catch (InvocationTargetException e) {
-            Class<?> thrown = e.getCause().getClass();
-            Set<Class<?>> due = new HashSet<>(Arrays.asList(method.getExceptionTypes()));
-            Check.due(name + Arrays.toString(arguments) + " may throw " + thrown.getName(), due.contains(thrown), true);
-            return "throws." + thrown.getSimpleName();
-        } catch (IllegalAccessException e) {
-            throw new IllegalStateException(e);
-        }
-    }
-
-    private String digest() {
-        StringBuilder text = new StringBuilder();
-        text.append(x.checksum()).append(' ').append(x.rings()).append(' ').append(make(x, "meanScore"));
-        for (int i = 0; i < papers; i++) {
-            text.append(x.state(i)).append(x.openPoints(i)).append(x.hasConcern(i)).append(x.isRight(i));
-            text.append(make(x, "editorOf", i)).append(make(x, "priority", i)).append(make(x, "publicVersion", i));
-            text.append(make(x, "equalTo", i));
-        }
-        for (int i = 0; i < people; i++) {
-            text.append(x.index(i));
-            for (int j = 0; j < people; j++) {
-                text.append(x.haveConflict(i, j) ? '1' : '0');
-            }
-            for (int j = 0; j < papers; j++) {
-                text.append(x.invitation(j, i)).append(x.sees(j % people, j, i));
-            }
-        }
-        return text.toString();
     }
 }

@@ -13,7 +13,7 @@ public final class PapersTest {
     }
 
     private static void begin() {
-        Refereehall x = new Refereehall();
+        Refereehall x = Check.watch(new Refereehall());
         Check.outOfBounds("begin by nobody", () -> x.begin(0, 8, -1));
         x.addPerson(0, 0);
         Check.outOfBounds("begin by -1", () -> x.begin(-1, 0, 0));

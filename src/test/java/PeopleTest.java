@@ -14,7 +14,7 @@ public final class PeopleTest {
     }
 
     private static void people() {
-        Refereehall x = new Refereehall();
+        Refereehall x = Check.watch(new Refereehall());
         Check.badArgument("house -1", () -> x.addPerson(-1, 0));
         Check.badArgument("house 10", () -> x.addPerson(10, 0));
         Check.badArgument("words -1", () -> x.addPerson(0, -1));
@@ -30,7 +30,7 @@ public final class PeopleTest {
     }
 
     private static void kin() {
-        Refereehall x = new Refereehall();
+        Refereehall x = Check.watch(new Refereehall());
         Check.outOfBounds("nobody yet", () -> x.tellConflict(0, 0));
         for (int i = 0; i < 4; i++) {
             x.addPerson(i == 3 ? 0 : i, 0);
@@ -57,7 +57,7 @@ public final class PeopleTest {
     }
 
     private static void houses() {
-        Refereehall x = new Refereehall();
+        Refereehall x = Check.watch(new Refereehall());
         x.addPerson(0, 0);
         Check.outOfBounds("move nobody", () -> x.move(1, 10));
         Check.outOfBounds("move -1", () -> x.move(-1, 0));
@@ -69,7 +69,7 @@ public final class PeopleTest {
     }
 
     private static void houseAfterMove() {
-        Refereehall x = new Refereehall();
+        Refereehall x = Check.watch(new Refereehall());
         x.addPerson(1, 0);
         x.addPerson(1, 0);
         x.addPerson(2, 0);
@@ -98,7 +98,7 @@ public final class PeopleTest {
     }
 
     private static void money() {
-        Refereehall x = new Refereehall();
+        Refereehall x = Check.watch(new Refereehall());
         for (int i = 0; i < 3; i++) {
             x.addPerson(i, 0);
         }
@@ -125,7 +125,7 @@ public final class PeopleTest {
     }
 
     private static void coAuthors() {
-        Refereehall x = new Refereehall();
+        Refereehall x = Check.watch(new Refereehall());
         for (int i = 0; i < 4; i++) {
             x.addPerson(i, 0);
         }
@@ -148,7 +148,7 @@ public final class PeopleTest {
     }
 
     private static void away() {
-        Refereehall x = new Refereehall();
+        Refereehall x = Check.watch(new Refereehall());
         Check.outOfBounds("away nobody", () -> x.sendAway(0, 100));
         x.addPerson(0, 0);
         Check.outOfBounds("away -1", () -> x.sendAway(-1, 1));
@@ -161,7 +161,7 @@ public final class PeopleTest {
     }
 
     private static void editorsOfFields() {
-        Refereehall x = new Refereehall();
+        Refereehall x = Check.watch(new Refereehall());
         Check.outOfBounds("editor nobody", () -> x.addEditor(0, 8));
         x.addPerson(0, 0);
         Check.badArgument("editor of -1", () -> x.addEditor(0, -1));
@@ -172,7 +172,7 @@ public final class PeopleTest {
     }
 
     private static void net() {
-        Refereehall x = new Refereehall();
+        Refereehall x = Check.watch(new Refereehall());
         Check.badArgument("tie -1", () -> x.tie(-1, 0));
         Check.badArgument("tie 8", () -> x.tie(0, 8));
         Check.badArgument("tie with itself", () -> x.tie(3, 3));

@@ -74,7 +74,7 @@ public final class RefereesTest {
     }
 
     private static void order() {
-        Refereehall x = new Refereehall();
+        Refereehall x = Check.watch(new Refereehall());
         int[] words = {7, 0, 1, 3, 3, 6, 7, 8};
         for (int i = 0; i < words.length; i++) {
             x.addPerson(i, words[i]);
