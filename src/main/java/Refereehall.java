@@ -16,6 +16,8 @@ public final class Refereehall {
     private static final int LAPSE_DAYS = 14;
     private static final int MOST_LOAD = 3;
     private static final int COMMITTEE = 3;
+    private static final int LEAST_EVENED = -50;
+    private static final int MOST_EVENED = 150;
     private static final int NONE = -1;
 
     private final People people = new People();
@@ -889,8 +891,8 @@ public final class Refereehall {
 
     /** The greatest difference of evened scores of the reports that count. */
     private int spreadOf(Paper it) {
-        int least = Integer.MAX_VALUE;
-        int most = Integer.MIN_VALUE;
+        int least = MOST_EVENED;
+        int most = LEAST_EVENED;
         for (int i = 0; i < it.reports.size(); i++) {
             Report its = it.reports.get(i);
             if (its.counts) {

@@ -489,6 +489,17 @@ public final class TermsLandTest {
         Refereehall x = Stage.at('x');
         x.appeal(0);
         Check.due("not 9, who did, though of the field itself", x.assign(0), 8);
+        x.setRules(0, 2, 100, 100, 's');
+        x.invite(0, 5);
+        for (int i = 1; i <= 2; i++) {
+            x.answer(0, i, true);
+            x.report(0, i, 60, 0, true);
+        }
+        Check.due("rejected by both", x.decide(0), 'x');
+        x.transfer(0, 1);
+        Check.noElement("neither of both", () -> x.assign(0));
+        x.addEditor(7, 1);
+        Check.due("a third one", x.assign(0), 7);
         Refereehall y = Stage.at('k');
         y.seat(0);
         y.vote(0, 5, false);
